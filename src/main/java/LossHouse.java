@@ -988,7 +988,10 @@ public final class LossHouse {
             } else {
                 sum(depth);
                 Sign comparison = sign;
-                need(comparison.isComparison() ? comparison : Sign.LESS);
+                if (!comparison.isComparison()) {
+                    sign = Sign.WRONG;
+                }
+                takes(comparison);
                 sum(depth);
                 step(comparison, 0);
             }

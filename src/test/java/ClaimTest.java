@@ -101,6 +101,7 @@ final class ClaimTest {
         house.open(0, 4, 500);
         house.open(1, 5, 50);
         house.pay(0, 150);
+        Check.same("claim(0, 7) ahead of all other questions", house.claim(0, 7), 200);
         int[] due = {0, 4, 150, 350, 500, 1, 100, 200};
         int[] dueNext = {1, 5, 0, 50, 50, 1, 0, 50};
         for (int what = 0; what <= 7; what++) {

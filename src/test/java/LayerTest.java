@@ -152,6 +152,9 @@ final class LayerTest {
         holds("amount = 500", true);
         holds("amount < 500", false);
         holds("amount <= 500", true);
+        holds("amount <= 499", false);
+        holds("not amount <= 499", true);
+        holds("amount >= 501", false);
         holds("amount > 500", false);
         holds("amount >= 500", true);
         holds("0-1 < 0", true);
@@ -197,6 +200,10 @@ final class LayerTest {
         }
         house.close(0, true);
         Check.same("gets with a lower claim ahead", house.gets(0, 4, false), 100);
+        LossHouse small = Check.houseWith("layer a 1 xs 0 share 1;");
+        small.open(0, 0, 500);
+        small.open(0, 0, 0);
+        Check.same("claims of which 1 is borne", small.used(0, 0, 3), 1);
         Check.noIndex("used(1, 0, 0)", house, () -> house.used(1, 0, 0));
         Check.noIndex("used(-1, 0, 0)", house, () -> house.used(-1, 0, 0));
         Check.noIndex("used(0, 10, 0)", house, () -> house.used(0, 10, 0));

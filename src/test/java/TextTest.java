@@ -158,6 +158,8 @@ final class TextTest {
         Check.taught(house, "layer a 1 xs 1 when 1 < 2 net of a;", 1, 26);
         Check.taught(house, "layer a min(1) xs 1;", 1, 13);
         Check.taught(house, "layer a min 1, 2 xs 1;", 1, 12);
+        Check.taught(house, "layer a min xs 1;", 1, 12);
+        Check.taught(house, "layer a max;", 1, 11);
         Check.taught(house, "layer a max(1, 2, 3) xs 1;", 1, 16);
         Check.taught(house, "layer a (1 xs 1;", 1, 11);
         Check.taught(house, "layer a 1) xs 1;", 1, 9);
@@ -186,6 +188,11 @@ final class TextTest {
         Check.taught(house, "layer a (((((((min(1, 2)))))))) xs 1;");
         Check.taught(house, "layer a ((((((((min(1, 2))))))))) xs 1;", 1, 19);
         Check.taught(house, "layer a (((((((min(1, -2)))))))) xs 1;", 1, 22);
+        Check.taught(house, "layer a (((((((max(-1, 2)))))))) xs 1;", 1, 19);
+        Check.taught(house, "layer a ((((((min(-1, -2))))))) xs 1;");
+        Check.taught(house, "layer a min(((((((((1)))))))), 2) xs 1;", 1, 19);
+        Check.taught(house, "layer a min(2, ((((((((1))))))))) xs 1;", 1, 22);
+        Check.taught(house, "layer a min(((((((-1)))))), ((((((-1))))))) xs 1;");
         Check.taught(house, "layer a -5 - -5 - -5 - -5 - -5 - -5 - -5 - -5 - -5 - -5 xs 1;");
         String not = Check.times("not ", 8);
         Check.taught(house, "layer a 1 xs 1 when " + not + "1 < 2 and " + not + "[2 < 1];", 1, 94);

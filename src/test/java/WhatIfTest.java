@@ -7,6 +7,7 @@ final class WhatIfTest {
         keenest();
         kept();
         digest();
+        fullHouse();
         Check.end();
     }
 
@@ -161,6 +162,44 @@ final class WhatIfTest {
             Check.same("digest()", house.digest(), digestOf(house, 1700));
         }
         Check.same("digest() again", house.digest(), house.digest());
+    }
+
+    /** As many layers, claims and years as there can be. */
+    private static void fullHouse() {
+        StringBuilder text = new StringBuilder();
+        for (char name = 'a'; name <= 'h'; name++) {
+            text.append("layer ").append(name).append(" 9000 + line xs 3000 * year share 90 yearly 30000 after 50 reinstate 4")
+                    .append(" at 1 at 20 at 30 at 40").append(name > 'a' ? " net of a when amount > 1000;" : ";");
+        }
+        LossHouse house = Check.houseWith(text.toString());
+        for (int i = 0; i < 40; i++) {
+            house.open(i / 4, i % 6, 1000 * i);
+            house.pay(i, 900);
+            if (i % 4 == 3 && i < 39) {
+                house.nextYear();
+            }
+        }
+        Check.same("count(3)", house.count(3), 9);
+        Check.same("digest() of a full house", house.digest(), digestOf(house, 1000));
+        int left = 0;
+        int incurred = 0;
+        for (int i = 0; i < 40; i++) {
+            left += house.claim(i, 7);
+            incurred += house.claim(i, 4);
+        }
+        Check.same("kept() of a full house", house.kept(), (double) left / incurred);
+        Check.same("count(7) of a full house", house.count(7), left);
+        Check.same("reaches(39, 7)", house.reaches(39, 7), 30000);
+        Check.same("would(39, 39000, 0)", house.would(39, 38100, 0), left);
+        int most = left;
+        int keenest = -1;
+        for (int k = 0; k < 8; k++) {
+            if (house.without(k) > most) {
+                most = house.without(k);
+                keenest = k;
+            }
+        }
+        Check.same("keenest() of a full house", house.keenest(), keenest);
     }
 
     /** The checksum as the document tells it, of what the other calls tell. */

@@ -8,6 +8,7 @@ final class YearTest {
         factors();
         ultimates();
         held();
+        allAges();
         reserves();
         worsts();
         Check.end();
@@ -186,6 +187,29 @@ final class YearTest {
         house.setReserve(0, 500000);
         // 1000 * 1, * 0.5, by the year 0 alone, * 1.5, the tail
         Check.same("a factor below 1000", house.ultimate(1, 2, true), 750);
+    }
+
+    /** The year 0 comes to the age 9, with one tenth more paid at each age. */
+    private static void allAges() {
+        LossHouse house = new LossHouse();
+        house.open(0, 0, 1000);
+        house.pay(0, 100);
+        for (int year = 1; year <= 9; year++) {
+            Check.same("nextYear()", house.nextYear(), year);
+            house.pay(0, 10);
+        }
+        int growth = 1000;
+        for (int age = 0; age <= 8; age++) {
+            int factor = (110 + 10 * age) * 1000 / (100 + 10 * age);
+            Check.same("factor(0, " + age + ")", house.factor(0, age), factor);
+            growth = growth * factor / 1000;
+        }
+        Check.same("growth of the year that is now", house.ultimate(0, 9, true), growth);
+        Check.same("growth of the year 1", house.ultimate(0, 1, true), 1055);
+        Check.same("growth of the year 0", house.ultimate(0, 0, true), 1000);
+        for (int age = 0; age <= 9; age++) {
+            Check.same("triangle(0, 0, " + age + ")", house.triangle(0, 0, age), 100 + 10 * age);
+        }
     }
 
     private static void reserves() {
