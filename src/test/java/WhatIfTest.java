@@ -1,3 +1,5 @@
+import java.util.function.Supplier;
+
 /** Promises 25 to 30: would, without, reaches, keenest, kept, digest. */
 final class WhatIfTest {
     public static void main(String[] args) {
@@ -140,14 +142,22 @@ final class WhatIfTest {
     }
 
     private static void digest() {
-        LossHouse house = new LossHouse();
-        Check.same("digest() of a new house", house.digest(), digestOf(house, 1000));
-        Check.taught(house, "layer a 50 + year xs 10 reinstate 2 at 70; layer b 30 xs 0 share 30 yearly 100 after 5 net of a;");
+        Check.same("digest() of a new house", new LossHouse().digest(), digestOf(LossHouse::new, 0, 1000));
+        for (int now = 1; now <= 9; now += 4) {
+            int year = now;
+            LossHouse house = houseInYear(now);
+            Check.same("digest() in the year " + now, house.digest(), digestOf(() -> houseInYear(year), 2, 1700));
+            Check.same("digest() again", house.digest(), house.digest());
+        }
+    }
+
+    private static LossHouse houseInYear(int now) {
+        LossHouse house = Check.houseWith("layer a 50 + year xs 10 reinstate 2 at 70;"
+                + "layer b 30 xs 0 share 30 yearly 100 after 5 net of a;");
         house.setPremium(0, 1000, 60);
         house.setPremium(1, 1000, 70);
         house.open(0, 0, 150);
         house.pay(0, 60);
-        Check.same("digest()", house.digest(), digestOf(house, 1000));
         house.nextYear();
         house.open(1, 3, 90);
         house.open(0, 2, 40);
@@ -155,17 +165,15 @@ final class WhatIfTest {
         house.close(2, true);
         house.setTail(1700);
         house.feed(1, 2, 3, 4, 5);
-        Check.same("digest()", house.digest(), digestOf(house, 1700));
-        for (int year = 2; year <= 9; year++) {
+        for (int year = 2; year <= now; year++) {
             house.nextYear();
             house.pay(1, 9);
-            Check.same("digest()", house.digest(), digestOf(house, 1700));
         }
-        Check.same("digest() again", house.digest(), house.digest());
+        return house;
     }
 
     /** As many layers, claims and years as there can be. */
-    private static void fullHouse() {
+    private static LossHouse full() {
         StringBuilder text = new StringBuilder();
         for (char name = 'a'; name <= 'h'; name++) {
             text.append("layer ").append(name).append(" 9000 + line xs 3000 * year share 90 yearly 30000 after 50 reinstate 4")
@@ -179,8 +187,13 @@ final class WhatIfTest {
                 house.nextYear();
             }
         }
+        return house;
+    }
+
+    private static void fullHouse() {
+        LossHouse house = full();
         Check.same("count(3)", house.count(3), 9);
-        Check.same("digest() of a full house", house.digest(), digestOf(house, 1000));
+        Check.same("digest() of a full house", house.digest(), digestOf(WhatIfTest::full, 0, 1000));
         int left = 0;
         int incurred = 0;
         for (int i = 0; i < 40; i++) {
@@ -190,7 +203,7 @@ final class WhatIfTest {
         Check.same("kept() of a full house", house.kept(), (double) left / incurred);
         Check.same("count(7) of a full house", house.count(7), left);
         Check.same("reaches(39, 7)", house.reaches(39, 7), 30000);
-        Check.same("would(39, 39000, 0)", house.would(39, 38100, 0), left);
+        Check.same("would(39, 38100, 0)", house.would(39, 38100, 0), left);
         int most = left;
         int keenest = -1;
         for (int k = 0; k < 8; k++) {
@@ -202,55 +215,60 @@ final class WhatIfTest {
         Check.same("keenest() of a full house", house.keenest(), keenest);
     }
 
-    /** The checksum as the document tells it, of what the other calls tell. */
-    private static long digestOf(LossHouse house, int tail) {
+    /**
+     * The checksum as the document tells it, of what the other calls tell. Each layer and each claim is asked of an
+     * object of its own, as one is used for at most 512 calls. The first years have the premium 1000.
+     */
+    private static long digestOf(Supplier<LossHouse> made, int years, int tail) {
         long d = 641;
+        LossHouse house = made.get();
         for (int what = 0; what <= 8; what++) {
             d = d * 31 + house.count(what);
         }
         int now = house.count(3);
         for (int k = 0; k < house.count(0); k++) {
-            for (int what = 0; what <= 7; what++) {
-                d = d * 31 + house.layer(k, what);
-            }
-            for (int year = 0; year <= now; year++) {
-                for (int what = 0; what <= 3; what++) {
-                    d = d * 31 + house.terms(k, year, what);
-                }
-                for (int what = 0; what <= 3; what++) {
-                    d = d * 31 + house.used(k, year, what);
-                }
-            }
+            d = layerOf(made.get(), k, now, d);
         }
         for (int i = 0; i < house.count(1); i++) {
-            for (int what = 0; what <= 7; what++) {
-                d = d * 31 + house.claim(i, what);
-            }
-            for (int age = 0; age <= now - house.claim(i, 0); age++) {
-                d = d * 31 + house.at(i, age, true);
-                d = d * 31 + house.at(i, age, false);
-            }
+            d = claimOf(made.get(), i, now, d);
         }
-        return yearsOf(house, d) * 31 + tail;
-    }
-
-    private static long yearsOf(LossHouse house, long start) {
-        // what was set of these houses: the premium of the years 0 and 1
-        int premium = house.setPremium(0, 0, 0);
-        house.setPremium(0, premium, premium == 0 ? 0 : 60);
-        long d = start;
-        for (int year = 0; year <= house.count(3); year++) {
-            boolean isSet = premium != 0 && year <= 1;
-            d = d * 31 + (isSet ? 1000 : 0);
-            d = d * 31 + (isSet ? 60 + 10 * year : 0);
+        for (int year = 0; year <= now; year++) {
+            d = d * 31 + (year < years ? 1000 : 0);
+            d = d * 31 + (year < years ? 60 + 10 * year : 0);
             for (int method = 0; method <= 2; method++) {
                 d = d * 31 + house.reserve(method, year);
             }
         }
-        for (int kind = 0; kind <= 3; kind++) {
-            for (int age = 0; age <= 8; age++) {
-                d = d * 31 + house.factor(kind, age);
+        for (int n = 0; n < 36; n++) {
+            d = d * 31 + house.factor(n / 9, n % 9);
+        }
+        return d * 31 + tail;
+    }
+
+    private static long layerOf(LossHouse house, int k, int now, long start) {
+        long d = start;
+        for (int what = 0; what <= 7; what++) {
+            d = d * 31 + house.layer(k, what);
+        }
+        for (int year = 0; year <= now; year++) {
+            for (int what = 0; what <= 3; what++) {
+                d = d * 31 + house.terms(k, year, what);
             }
+            for (int what = 0; what <= 3; what++) {
+                d = d * 31 + house.used(k, year, what);
+            }
+        }
+        return d;
+    }
+
+    private static long claimOf(LossHouse house, int i, int now, long start) {
+        long d = start;
+        for (int what = 0; what <= 7; what++) {
+            d = d * 31 + house.claim(i, what);
+        }
+        for (int age = 0; age <= now - house.claim(i, 0); age++) {
+            d = d * 31 + house.at(i, age, true);
+            d = d * 31 + house.at(i, age, false);
         }
         return d;
     }
