@@ -30,18 +30,25 @@ final class Check {
         made++;
         long before = house.digest();
         int errorBefore = house.errorAt();
-        String got = "nothing";
-        try {
-            call.run();
-        } catch (RuntimeException e) {
-            got = e.getClass().getSimpleName();
-        }
+        String got = thrownBy(call);
         if (!got.equals(due.getSimpleName())) {
             wrong++;
             System.out.println(what + " threw " + got + ", due is " + due.getSimpleName());
         }
         same(what + ": the digest behind it", house.digest(), before);
         same(what + ": errorAt() behind it", house.errorAt(), errorBefore);
+    }
+
+    /** The name of the exception that the program itself throws, "nothing" if none is thrown. */
+    static String thrownBy(Runnable call) {
+        try {
+            call.run();
+            return "nothing";
+        } catch (RuntimeException e) {
+            StackTraceElement[] frames = e.getStackTrace();
+            boolean isOfProgram = frames.length > 0 && frames[0].getClassName().equals("LossHouse");
+            return e.getClass().getSimpleName() + (isOfProgram ? "" : " by the machine or the library");
+        }
     }
 
     static void noIndex(String what, LossHouse house, Runnable call) {

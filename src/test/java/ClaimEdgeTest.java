@@ -12,6 +12,8 @@ final class ClaimEdgeTest {
         aPaymentIs1To1000000();
         theReserveIsAsMuchLessButAtLeast0();
         incurredIsPaidAndReserve();
+        whatIsLeftIsOfPaidOrIncurred();
+        allIsOfAllClaims();
         aClosedClaimHasTheReserve0();
         aClosedClaimTakesNothing();
         anAgeIsNowLessTheYear();
@@ -184,6 +186,44 @@ final class ClaimEdgeTest {
         Check.same("all is left", house.count(7), 2000000);
         house.nextYear();
         Check.same("at the end of the age 0", house.at(0, 0, false), 2000000);
+    }
+
+    /** "6 what is left of what is paid, 7 what is left of what it has incurred", each asked of a house that told nothing yet */
+    private static void whatIsLeftIsOfPaidOrIncurred() {
+        for (int what = 6; what <= 7; what++) {
+            LossHouse house = Check.houseWith("layer a 10 xs 20;");
+            house.open(0, 0, 100);
+            house.pay(0, 25);
+            Check.same("claim(0, " + what + ") asked first", house.claim(0, what), what == 6 ? 20 : 90);
+            Check.same("claim(0, " + (13 - what) + ") asked then", house.claim(0, 13 - what), what == 6 ? 90 : 20);
+            house.pay(0, 1);
+            Check.same("claim(0, 6) behind a payment", house.claim(0, 6), 20);
+            house.pay(0, 10);
+            Check.same("claim(0, 6) behind another", house.claim(0, 6), 26);
+        }
+    }
+
+    /** "5 all that is paid, 6 all reserves": of all claims, closed ones, too */
+    private static void allIsOfAllClaims() {
+        LossHouse house = new LossHouse();
+        int[] all = {0, 0, 0};
+        for (int what = 5; what <= 7; what++) {
+            Check.same("count(" + what + ") of a new house", house.count(what), all[what - 5]);
+        }
+        for (int i = 0; i < 4; i++) {
+            house.open(0, 0, 100 << i);
+            house.pay(i, 7 + i);
+        }
+        Check.same("count(2)", house.count(2), 4);
+        Check.same("count(5)", house.count(5), 7 + 8 + 9 + 10);
+        Check.same("count(6)", house.count(6), 1500 - 34);
+        Check.same("count(7)", house.count(7), 1500);
+        house.close(1, true);
+        Check.same("count(1) with a closed one", house.count(1), 4);
+        Check.same("count(2) with a closed one", house.count(2), 3);
+        Check.same("count(5) with a closed one", house.count(5), 34);
+        Check.same("count(6) with a closed one", house.count(6), 1300 - 26);
+        Check.same("count(7) with a closed one", house.count(7), 1308);
     }
 
     /** "Closes a claim, which has the reserve 0 then, or opens it again." */

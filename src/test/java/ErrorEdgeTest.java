@@ -252,6 +252,10 @@ final class ErrorEdgeTest {
         Check.reads("layer a min(1) xs 1;", 1, 13);
         Check.reads("layer a min(1, 2, 3) xs 1;", 1, 16);
         Check.reads("layer a min 1 xs 1;", 1, 12);
+        Check.reads("layer a max 1 xs 1;", 1, 12);
+        Check.reads("layer a min xs 1;", 1, 12);
+        Check.reads("layer a max xs 1;", 1, 12);
+        Check.reads("layer a 1 xs min;", 1, 16);
         Check.reads("layer a 1 xs 1 when [1 < 2) ;", 1, 26);
         Check.reads("layer a 1 xs 1 when 1 < 2 1 < 2;", 1, 26);
         Check.reads("layer a 1 + * 2 xs 1;", 1, 12);

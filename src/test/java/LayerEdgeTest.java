@@ -24,6 +24,7 @@ final class LayerEdgeTest {
         withoutBothThereIsNoBound();
         boundsDoNotWrapAround();
         claimsOfAYearTakeInTheirOrder();
+        anAnswerIsTheSameWhenAskedAgain();
         aShareIsCut();
         whatIsLeftIsAtLeast0();
         Check.end();
@@ -55,6 +56,15 @@ final class LayerEdgeTest {
         }
         for (int year = 2; year <= 4; year++) {
             house.open(year, year, 100);
+        }
+        return house;
+    }
+
+    /** A house with claims of 100 in the year 0, of the lines 2, 3 and 4. */
+    private static LossHouse inOneYear(String text) {
+        LossHouse house = Check.houseWith(text);
+        for (int line = 2; line <= 4; line++) {
+            house.open(0, line, 100);
         }
         return house;
     }
@@ -136,6 +146,9 @@ final class LayerEdgeTest {
     private static void aLimitBelow0CountsAs0() {
         gets(withYears("layer a line - 3 xs 0;"), 0, 0, 1);
         gets(withYears("layer a line - 3 xs 99;"), 0, 0, 1);
+        // in one year, too: a loss below 0 would take from what the next claim gets
+        gets(inOneYear("layer a line - 3 xs 0;"), 0, 0, 1);
+        gets(inOneYear("layer a 3 - line xs 0;"), 1, 0, 0);
         LossHouse house = withYears("layer a year - 3 xs 0 reinstate 1 at 100;");
         gets(house, 0, 0, 1);
         int[] due = {0, 0, 0, 0, 1, 2, 3, 4, 5, 6};
@@ -160,6 +173,7 @@ final class LayerEdgeTest {
             Check.same("the retention of " + year, house.terms(0, year, 1), Math.max(year - 3, 0));
         }
         gets(withYears("layer a 1000 xs line - 3;"), 100, 100, 99);
+        gets(inOneYear("layer a 1000 xs line - 3;"), 100, 100, 99);
         gets(withYears("layer a 1000 xs 32768 * 65536;"), 100, 100, 100);
         gets(withYears("layer a 1000 xs 32767 * 65536 + 65535;"), 0, 0, 0);
     }
@@ -381,6 +395,29 @@ final class LayerEdgeTest {
         gets(house, 0, 0, 45, 80, 100, 10);
         Check.same("used in the year 0", house.used(0, 0, 0), 90);
         Check.same("used in the year 1", house.used(0, 1, 0), 145);
+    }
+
+    /** Each question begins each year's losses anew, also those of the year 0 and of the year 9. */
+    private static void anAnswerIsTheSameWhenAskedAgain() {
+        LossHouse house = Check.houseWith("layer a 100 xs 0 yearly 150;");
+        for (int i = 0; i < 9; i++) {
+            house.nextYear();
+        }
+        for (int year = 0; year <= 9; year++) {
+            house.open(year, 0, 90);
+            house.open(year, 0, 90);
+        }
+        for (int times = 0; times < 3; times++) {
+            for (int year = 0; year <= 9; year++) {
+                Check.same("used in the year " + year, house.used(0, year, 0), 150);
+                Check.same("the first claim of " + year, house.gets(0, 2 * year, false), 90);
+                Check.same("the second claim of " + year, house.gets(0, 2 * year + 1, false), 60);
+                Check.same("what is left of the year " + year, house.triangle(3, year, 9 - year), 30);
+            }
+            Check.same("count(7)", house.count(7), 300);
+            Check.same("without(0)", house.without(0), 1800);
+            Check.same("would", house.would(19, 0, 0), 270);
+        }
     }
 
     /** "A claim gets what the layer bears of it * share / 100 (100 without a share)." */

@@ -82,12 +82,7 @@ final class RefusalTest {
 
     private static void refused(String name, Supplier<LossHouse> made, Consumer<LossHouse> call, Class<?> due) {
         LossHouse house = made.get();
-        String got = "nothing";
-        try {
-            call.accept(house);
-        } catch (RuntimeException e) {
-            got = e.getClass().getSimpleName();
-        }
+        String got = Check.thrownBy(() -> call.accept(house));
         Check.same(name + " throws " + got + ", due is " + due.getSimpleName(), got.equals(due.getSimpleName()) ? 1 : 0, 1);
         List<String> told = Told.by(house);
         List<String> without = Told.by(made.get());
@@ -98,12 +93,8 @@ final class RefusalTest {
     }
 
     private static void accepted(String name, Supplier<LossHouse> made, Consumer<LossHouse> call) {
-        String got = "nothing";
-        try {
-            call.accept(made.get());
-        } catch (RuntimeException e) {
-            got = e.getClass().getSimpleName();
-        }
+        LossHouse house = made.get();
+        String got = Check.thrownBy(() -> call.accept(house));
         Check.same(name + " throws " + got + ", due is nothing", got.equals("nothing") ? 1 : 0, 1);
     }
 

@@ -19,6 +19,7 @@ final class TriangleEdgeTest {
         aGrowthIsHeldAfterEachStep();
         reservesByTheMethods0And1();
         theReserveByTheMethod2IsCutAtEachStep();
+        theReserveByTheMethod2CutsTheQuotient();
         theReserveByTheMethod2IsAtLeast0();
         theReserveByTheMethod2OfGreatGrowths();
         premiumsAre0AtFirst();
@@ -406,6 +407,22 @@ final class TriangleEdgeTest {
             house.setPremium(0, row[1], row[2]);
             Check.same("reserve(2, 0) with " + row[1] + ", " + row[2] + ", " + row[0], house.reserve(2, 0), row[3]);
         }
+    }
+
+    /** "(1000 - 1000000 / the growth of the kind 0)" is cut before it is taken off: 1000000 / 9901 is 100, 1000000 / 9900 101. */
+    private static void theReserveByTheMethod2CutsTheQuotient() {
+        int[] growths = {9900, 9901, 10000, 10001, 999999, 1000000};
+        int[] due = {89900, 90000, 90000, 90100, 99900, 99900};
+        for (int i = 0; i < growths.length; i++) {
+            LossHouse house = paid(new int[] {1000, growths[i]}, new int[] {0});
+            house.setPremium(1, 100000, 100);
+            Check.same("growth(0, 1)", house.ultimate(0, 1, true), growths[i]);
+            Check.same("reserve(2, 1) with the growth " + growths[i], house.reserve(2, 1), due[i]);
+        }
+        LossHouse beyond = paid(new int[][] {{0, 1, 1001}, {1, 1000}, {0}});
+        beyond.setPremium(2, 100000, 100);
+        Check.same("growth(0, 2)", beyond.ultimate(0, 2, true), 1000000000);
+        Check.same("reserve(2, 2) with a growth beyond 1000000", beyond.reserve(2, 2), 100000);
     }
 
     /** "but at least 0": the growth of the kind 0 is never less than 1000, with which it is 0. */
