@@ -20,8 +20,12 @@ final class FormTest {
             "int ultimate(int,int,boolean)", "int reserve(int,int)", "int worst(int)", "int would(int,int,int)",
             "int without(int)", "int reaches(int,int)", "int keenest()", "double kept()", "long digest()");
     private static final List<String> BANNED = List.of("->", "::", "finally", "synchronized", "assert", "Exact",
-            "try ", "catch", "System.", "Random", "Thread", "static {", "this;", "this)", "this,", ".ordinal", "hashCode",
-            "toString", "import java.io", "import java.util.function", "instanceof", "<String>");
+            "Random", "Thread", "static {", ".ordinal", "hashCode", "boolean equals(", "String toString()", "<String>",
+            "extends Exception", "extends RuntimeException", "getMessage", "String.format", "Math.sqrt", "Math.round");
+    private static final Set<String> THROWN = Set.of("IllegalStateException", "IllegalArgumentException",
+            "IndexOutOfBoundsException");
+    private static final Set<String> IMPORTED = Set.of("java.util.ArrayList", "java.util.List", "java.util.Arrays",
+            "java.util.Iterator", "java.util.NoSuchElementException");
 
     private FormTest() {
     }
@@ -79,8 +83,43 @@ final class FormTest {
         }
         Matcher imports = Pattern.compile("import ([\\w.]+);").matcher(source);
         while (imports.find()) {
-            boolean isKnown = imports.group(1).equals("java.util.ArrayList") || imports.group(1).equals("java.util.List");
-            Check.same("import of " + imports.group(1), isKnown ? 1 : 0, 1);
+            Check.same("import of " + imports.group(1), IMPORTED.contains(imports.group(1)) ? 1 : 0, 1);
         }
+        exceptions(source);
+        systemCalls(source);
+        methodsAreShort(source);
+    }
+
+    /** Rule 6: what is thrown is written out, and caught is what the program throws itself. */
+    private static void exceptions(String source) {
+        Matcher thrown = Pattern.compile("\\bthrow (new (\\w+)\\((\"[^\"]*\")?\\);)?").matcher(source);
+        while (thrown.find()) {
+            boolean isKnown = thrown.group(2) != null && THROWN.contains(thrown.group(2));
+            Check.same("'" + thrown.group() + "'", isKnown ? 1 : 0, 1);
+        }
+        Matcher caught = Pattern.compile("\\bcatch \\((\\w+)").matcher(source);
+        while (caught.find()) {
+            boolean isOfProgram = THROWN.contains(caught.group(1)) && !caught.group(1).startsWith("Index");
+            Check.same("'" + caught.group() + "'", isOfProgram ? 1 : 0, 1);
+        }
+    }
+
+    private static void systemCalls(String source) {
+        Matcher calls = Pattern.compile("\\bSystem\\.(\\w+)").matcher(source);
+        while (calls.find()) {
+            Check.same("'" + calls.group() + "'", calls.group(1).equals("arraycopy") ? 1 : 0, 1);
+        }
+    }
+
+    /** Rule 11: some sixty lines; a method of a class inside stands eight blanks in, one of the face four. */
+    private static void methodsAreShort(String source) {
+        Matcher methods = Pattern.compile("(?m)^(    |        )(?=\\S)[\\w<>\\[\\], ]+\\([^;]*?\\{\\R(.*\\R)*?\\1\\}$").matcher(source);
+        int count = 0;
+        while (methods.find()) {
+            count++;
+            String first = methods.group().lines().findFirst().orElse("").trim();
+            Check.same("more than sixty lines: " + first, methods.group().lines().count() <= 60 ? 1 : 0, 1);
+        }
+        Check.same("methods are found", count > 60 ? 1 : 0, 1);
     }
 }

@@ -16,6 +16,8 @@ final class LayerEdgeTest {
         aSubjectIsLessWhatIsGotNotWhatIsBorne();
         aLossIsBeyondTheRetentionAndAtMostTheLimit();
         aLossIs0IfTheTestDoesNotHold();
+        comparisonsHoldOnOneSide();
+        comparisonsAreJoinedInPairs();
         whatIsBeyondTheAfterIsBorne();
         whatIsBorneIsAtMostTheBound();
         aBoundOf0IsNone();
@@ -255,6 +257,54 @@ final class LayerEdgeTest {
         house.setReserve(0, 60);
         Check.same("left of the age 0", house.triangle(3, 0, 0), 50);
         Check.same("left of the age 1", house.triangle(3, 0, 1), 20);
+    }
+
+    /** Each comparison with its left side less, equal and greater, by itself and turned. */
+    private static void comparisonsHoldOnOneSide() {
+        String[] signs = {"<", ">", "=", "<=", ">="};
+        String[] due = {"100", "001", "010", "110", "011"};
+        for (int i = 0; i < signs.length; i++) {
+            for (int left = 4; left <= 6; left++) {
+                boolean isDue = due[i].charAt(left - 4) == '1';
+                String test = left + signs[i] + 5;
+                holds(test, isDue);
+                holds("not " + test, !isDue);
+                holds("not [" + test + "]", !isDue);
+                holds("not not " + test, isDue);
+            }
+        }
+    }
+
+    /** Each comparison beside each other one: and is read ahead of or, a not turns what stands next. */
+    private static void comparisonsAreJoinedInPairs() {
+        String[] good = {"4 < 5", "5 > 4", "5 = 5", "5 <= 5", "4 <= 5", "5 >= 5", "5 >= 4", "not 5 = 4"};
+        String[] bad = {"5 < 5", "5 > 5", "5 = 4", "5 <= 4", "4 >= 5", "not 5 = 5", "not 5 <= 5", "not not 5 < 4"};
+        for (String left : good) {
+            for (String right : good) {
+                holds(left + " and " + right, true);
+                holds(left + " or " + right, true);
+                holds("not [" + left + " and " + right + "]", false);
+                holds("not [" + left + " or " + right + "]", false);
+            }
+            for (String right : bad) {
+                holds(left + " and " + right, false);
+                holds(right + " and " + left, false);
+                holds(left + " or " + right, true);
+                holds(right + " or " + left, true);
+                holds(left + " or " + right + " and " + right, true);
+                holds("[" + left + " or " + right + "] and " + right, false);
+            }
+        }
+        for (String left : bad) {
+            for (String right : bad) {
+                holds(left + " and " + right, false);
+                holds(left + " or " + right, false);
+            }
+        }
+    }
+
+    private static void holds(String test, boolean due) {
+        Check.same("gets when " + test, with("layer a 1 xs 0 when " + test + ";", 1).gets(0, 0, false), due ? 1 : 0);
     }
 
     /** "of the losses, added so far, what is beyond the sum behind after (0 without one)" */

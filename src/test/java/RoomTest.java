@@ -82,6 +82,6 @@ final class RoomTest {
 
     private static long made() {
         ThreadMXBean threads = (ThreadMXBean) ManagementFactory.getThreadMXBean();
-        return threads.getThreadAllocatedBytes(Thread.currentThread().getId());
+        return threads.getCurrentThreadAllocatedBytes();
     }
 }
