@@ -25,6 +25,14 @@ final class Check {
         }
     }
 
+    static void same(String what, String got, String due) {
+        made++;
+        if (!got.equals(due)) {
+            wrong++;
+            System.out.println(what + " answered " + got + ", due is " + due);
+        }
+    }
+
     /** The call has to throw just this exception, and to leave all that the house tells as it was. */
     static void refused(String what, LossHouse house, Class<? extends RuntimeException> due, Runnable call) {
         made++;
